@@ -55,15 +55,8 @@ public final class ModelTest {
     private void both(String call, Supplier<Object> got, Supplier<Object> want) {
         calls++;
         told.add(call);
-        CHECK.due("run " + run + ", behind " + told.size() + " calls: " + call, answer(got), answer(want));
-    }
-
-    private static Object answer(Supplier<Object> call) {
-        try {
-            return call.get();
-        } catch (IllegalArgumentException | IllegalStateException | IndexOutOfBoundsException e) {
-            return Check.nameOf(e);
-        }
+        CHECK.due("run " + run + ", behind " + told.size() + " calls: " + call, Check.answer(got),
+            Check.answer(want));
     }
 
     /** Mostly an evening that there is, at times one that there is not. */
@@ -105,7 +98,7 @@ public final class ModelTest {
             number = next(30) == 0 ? next(20) - 2 : next(kind == 1 || kind == 2 ? Math.max(1, model.pieces()) : 8);
             int triedKind = kind;
             int triedNumber = number;
-            if (answer(() -> model.canDo(triedKind, triedNumber)).equals(true)) {
+            if (Check.answer(() -> model.canDo(triedKind, triedNumber)).equals(true)) {
                 break;
             }
         }
