@@ -193,7 +193,7 @@ public final class PawEdgesTest {
         due("setPiece(5, 5)", cat.setPiece(5, 5), 0);
     }
 
-    /** Promise 2: "Throws IllegalStateException if .. another piece is there"; Terms: "at which no other one stands". */
+    /** Promise 2: "if .. another piece is there"; Terms: "each has a place, at which no other one stands". */
     private static void promise2AnotherPieceIsThere() {
         Situation corners = withPiece(withPiece(withPiece(withPiece(Situation.NEW, 0, 0), 7, 7), 0, 7), 7, 0);
         for (int[] corner : new int[][] {{0, 0}, {7, 7}, {0, 7}, {7, 0}}) {
