@@ -10,14 +10,20 @@ import java.util.stream.Collectors;
 
 /** The class shows the document's face and nothing else (LANGUAGE.md, rule 1). */
 public final class FaceTest {
+    private static final String ILLEGAL = " throws IllegalArgumentException";
+    private static final String STATE_TOO = ILLEGAL + ", IllegalStateException";
+    private static final String MISSING = " throws IndexOutOfBoundsException";
+
     private static final String[] FACE = {
-        "int setPiece(int, int)", "int paw(int, int)", "int undo(int)", "int redo(int)", "int goTo(int)",
-        "int evening()", "int evenings()", "int pieces()", "int catColumn()", "int catRow()", "int lying()",
-        "int placeOf(int)", "boolean lies(int)", "int pieceAt(int, int)", "boolean canDo(int, int)",
-        "int hangsOn(int)", "int kindOf(int)", "int numberOf(int)", "int depthOf(int)", "int branches(int)",
-        "int behind(int)", "int again(int)", "int meet(int, int)", "int apart(int, int)", "int ends()",
-        "int placeIn(int, int)", "int lyingIn(int)", "boolean areAlike(int, int)", "int mostKnocked()",
-        "double meanDepth()", "long digest()"};
+        "int setPiece(int, int)" + STATE_TOO, "int paw(int, int)" + STATE_TOO, "int undo(int)" + STATE_TOO,
+        "int redo(int)" + STATE_TOO, "int goTo(int)" + MISSING, "int evening()", "int evenings()", "int pieces()",
+        "int catColumn()", "int catRow()", "int lying()", "int placeOf(int)" + MISSING,
+        "boolean lies(int)" + MISSING, "int pieceAt(int, int)" + ILLEGAL, "boolean canDo(int, int)" + ILLEGAL,
+        "int hangsOn(int)" + MISSING, "int kindOf(int)" + MISSING, "int numberOf(int)" + MISSING,
+        "int depthOf(int)" + MISSING, "int branches(int)" + MISSING, "int behind(int)" + MISSING,
+        "int again(int)" + MISSING, "int meet(int, int)" + MISSING, "int apart(int, int)" + MISSING, "int ends()",
+        "int placeIn(int, int)" + MISSING, "int lyingIn(int)" + MISSING, "boolean areAlike(int, int)" + MISSING,
+        "int mostKnocked()", "double meanDepth()", "long digest()"};
 
     private static final Check CHECK = new Check();
 
@@ -38,10 +44,16 @@ public final class FaceTest {
             if (Modifier.isPublic(method.getModifiers())) {
                 found.add(method.getReturnType().getSimpleName() + " " + method.getName() + Arrays
                     .stream(method.getParameterTypes()).map(Class::getSimpleName)
-                    .collect(Collectors.joining(", ", "(", ")")));
+                    .collect(Collectors.joining(", ", "(", ")")) + thrownBy(method));
             }
         }
         return found;
+    }
+
+    private static String thrownBy(Method method) {
+        String names = Arrays.stream(method.getExceptionTypes()).map(Class::getSimpleName)
+            .collect(Collectors.joining(", "));
+        return names.isEmpty() ? "" : " throws " + names;
     }
 
     private static Set<String> constructors() {

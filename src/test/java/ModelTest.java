@@ -50,6 +50,9 @@ public final class ModelTest {
             ask();
             ask();
         }
+        while (calls < CALLS) {
+            ask();
+        }
     }
 
     private void both(String call, Supplier<Object> got, Supplier<Object> want) {
